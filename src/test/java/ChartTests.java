@@ -60,6 +60,39 @@ final class ChartTests {
         Check.due("20: another bump", x.again(3, 3), 3);
         Check.due("20: another bump", x.again(2, 3), 4);
         Check.due("19: another bump", x.place(3, 3), 3);
+        againWithTheMostBumps();
+        againAfterUndoOfBegin();
+    }
+
+    private static void againAfterUndoOfBegin() {
+        BumpsChart x = new BumpsChart();
+        x.begin(4, 4, 2);
+        x.bump(1, 0);
+        x.finish();
+        x.bump(0, 1);
+        x.finish();
+        x.begin(4, 4, 2);
+        x.finish();
+        Check.write(x, "2-1;3-0;");
+        x.enter();
+        x.finish();
+        Check.due("20: anew", x.again(0, 2), 3);
+        Check.due("19: anew", x.place(0, 2), 3);
+        for (int left = 3; left >= 0; left--) {
+            Check.due("20: undo", x.undo(), left);
+        }
+        int[][] due = {{0, 1, 0}, {1, 0, 1}, {2, 2, 2}};
+        for (int crew = 0; crew < 3; crew++) {
+            for (int day = 0; day <= 2; day++) {
+                Check.due("19: as before begin", x.place(crew, day), due[crew][day]);
+                Check.due("20: as before begin", x.again(crew, day), due[crew][day]);
+            }
+        }
+        Check.due("20: made by the crew 1", x.crew(1, 8), 1);
+        Check.due("20: made on the crew 1", x.crew(1, 9), 1);
+    }
+
+    private static void againWithTheMostBumps() {
         BumpsChart y = new BumpsChart();
         y.begin(24, 3, 6);
         for (int day = 1; day <= 6; day++) {

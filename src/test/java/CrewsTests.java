@@ -23,7 +23,11 @@ final class CrewsTests {
         }
         Check.crews("1: places", x, 0, 1, 2, 3, 4, 5, 6, 7, 8, 9, 10, 11);
         for (int crew = 0; crew < 12; crew++) {
-            Check.due("1: speed of " + crew, x.crew(crew, 0), 400);
+            int[] properties = {400, crew, crew / 4, crew < 8 ? Check.NONE : crew - 8, crew < 8 ? Check.NONE : 0, 0, 0,
+                0, 0, 0};
+            for (int what = 0; what < properties.length; what++) {
+                Check.due("1: crew(" + crew + ", " + what + ")", x.crew(crew, what), properties[what]);
+            }
         }
         Check.due("1: two objects are apart", new BumpsChart().setSpeed(0, 5), 400);
         Check.due("1: two objects are apart", x.crew(0, 0), 400);
@@ -60,7 +64,7 @@ final class CrewsTests {
         x.finish();
         x.bump(1, 0);
         x.finish();
-        x.bump(3, 5);
+        Check.due("2: a bump before", x.bump(5, 3), 0);
         Check.write(x, "4-3;");
         Check.due("2: begin anew", x.begin(6, 3, 2), 2);
         Check.crews("2: places anew", x, 0, 1, 2, 3, 4, 5);
@@ -70,8 +74,10 @@ final class CrewsTests {
         Check.due("2: no day is over", x.count(4), 0);
         Check.due("2: no bump", x.count(6), 0);
         Check.due("2: none is out", x.crew(5, 4), 0);
-        Check.due("2: no bump made", x.crew(5, 8), 0);
-        Check.due("2: no bump suffered", x.crew(4, 9), 0);
+        for (int crew = 0; crew < 6; crew++) {
+            Check.due("2: no bump made", x.crew(crew, 8), 0);
+            Check.due("2: no bump suffered", x.crew(crew, 9), 0);
+        }
         Check.due("2: no day 1", x.place(0, 1), Check.INVALID);
         Check.due("2: none rose", x.bestRise(), Check.NONE);
         Check.due("2: the text is no part of it", x.count(11), 4);

@@ -10,6 +10,7 @@ final class ForetellingTests {
         row();
         rowWithBumps();
         distanceBits();
+        bitsOfDistances();
         speedFor();
         speedForMayNeedLess();
     }
@@ -139,6 +140,14 @@ final class ForetellingTests {
         Check.due("17: time", x.distanceBits(1, -1), Check.INVALID);
         Check.due("17: time", x.distanceBits(1, 1001), Check.INVALID);
         Check.due("17: time rather than index", x.distanceBits(9, 1001), Check.INVALID);
+    }
+
+    private static void bitsOfDistances() {
+        BumpsChart x = six(1, 1000);
+        for (int gap = 100; gap <= 5000; gap++) {
+            x.set(0, gap);
+            Check.due("17: after a second, with a gap of " + gap, x.distanceBits(1, 1), bits(gap - 999));
+        }
     }
 
     private static void speedFor() {

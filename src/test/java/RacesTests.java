@@ -14,6 +14,7 @@ final class RacesTests {
         finish();
         sandwich();
         undo();
+        undoOfBegin();
         undoNeverTakesTheText();
     }
 
@@ -230,6 +231,32 @@ final class RacesTests {
         x.begin(24, 8, 6);
         Check.due("14: begin taken back", x.undo(), 0);
         Check.same("14: as before", Check.told(x).substring(28), begun.substring(28));
+    }
+
+    private static void undoOfBegin() {
+        BumpsChart x = new BumpsChart();
+        x.begin(5, 5, 3);
+        x.bump(1, 0);
+        x.bump(4, 3);
+        x.finish();
+        x.bump(2, 0);
+        x.finish();
+        x.setSpeed(3, 666);
+        x.bump(4, 2);
+        x.set(0, 777);
+        x.set(1, 55);
+        String before = Check.told(x);
+        x.begin(5, 3, 2);
+        x.set(0, 1234);
+        x.bump(4, 3);
+        x.finish();
+        x.undo();
+        x.undo();
+        Check.due("14: the gap as set", x.count(8), 1234);
+        Check.due("14: the gap taken back", x.undo(), 1);
+        Check.due("14: the gap as before", x.count(8), 777);
+        Check.due("14: begin taken back", x.undo(), 0);
+        Check.same("14: all as before begin", Check.told(x).substring(28), before.substring(28));
     }
 
     private static void undoNeverTakesTheText() {
