@@ -9,9 +9,16 @@ public final class AllTests {
         ChartTests.run();
         TextsTests.run();
         ChangesTests.run();
+        CrewsEdgesTests.run();
+        RacesEdgesTests.run();
+        ForetellingEdgesTests.run();
+        ChartEdgesTests.run();
+        TextsEdgesTests.run();
+        ChangesEdgesTests.run();
         FaceTests.run(args[0]);
         ModelTests.run();
-        System.out.println("the project's checks: " + Check.passed() + " passed, " + Check.failed() + " failed");
+        System.out.println("the project's checks: " + Check.passed() + " passed, " + Check.failed() + " failed; "
+            + Check.sentences() + " sentences of the document have a test of their own");
         if (Check.failed() != 0) {
             System.exit(1);
         }

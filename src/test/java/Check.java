@@ -1,3 +1,5 @@
+import java.util.function.IntUnaryOperator;
+
 /** Counts the checks of the project's tests and prints each one that fails. */
 final class Check {
     static final int INVALID = -1001;
@@ -7,15 +9,37 @@ final class Check {
 
     private static int passed = 0;
     private static int failed = 0;
+    private static int sentences = 0;
+    private static String sentence = "";
 
     private Check() { }
+
+    /** Runs the test of one sentence of the document: its failures tell the sentence, and it must check something. */
+    static void sentence(String text, Runnable test) {
+        int before = passed + failed;
+        sentence = text + " | ";
+        test.run();
+        holds("the sentence has a check", passed + failed > before);
+        sentence = "";
+        sentences++;
+    }
+
+    /** Each value from least to most is taken, those next to them and the outermost ones are refused. */
+    static void range(String what, int least, int most, IntUnaryOperator call) {
+        for (int value = least; value <= most; value++) {
+            holds(what + ": " + value + " is in the range", call.applyAsInt(value) != INVALID);
+        }
+        for (int value : new int[] {least - 1, most + 1, Integer.MIN_VALUE, Integer.MAX_VALUE}) {
+            due(what + ": " + value, call.applyAsInt(value), INVALID);
+        }
+    }
 
     static void due(String what, long got, long want) {
         if (got == want) {
             passed++;
         } else {
             failed++;
-            System.out.println(what + " answered " + got + ", due is " + want);
+            System.out.println(sentence + what + " answered " + got + ", due is " + want);
         }
     }
 
@@ -24,7 +48,7 @@ final class Check {
             passed++;
         } else {
             failed++;
-            System.out.println(what + ":\n  is     " + got + "\n  due is " + want);
+            System.out.println(sentence + what + ":\n  is     " + got + "\n  due is " + want);
         }
     }
 
@@ -90,5 +114,9 @@ final class Check {
 
     static int failed() {
         return failed;
+    }
+
+    static int sentences() {
+        return sentences;
     }
 }
