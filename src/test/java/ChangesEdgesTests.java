@@ -90,7 +90,8 @@ final class ChangesEdgesTests {
         }
     }
 
-    private static void everything() {
+    /** One day is over, all that can be set is set, the race has a bump, and the text another one. */
+    private static BumpsChart dayOver() {
         BumpsChart x = Charts.begun(6, 3, 3);
         Charts.raceWith(x, 4, 3);
         Charts.raceWith(x, 4, 2);
@@ -99,15 +100,22 @@ final class ChangesEdgesTests {
         x.set(1, 44);
         x.bump(3, 2);
         Check.write(x, "5-2;");
-        String before = Check.told(x);
+        return x;
+    }
+
+    private static void everything() {
+        String before = Check.told(dayOver());
         Call[] all = {
             y -> y.begin(24, 8, 6), y -> y.setSpeed(5, 1), y -> y.set(0, 5000), y -> y.set(1, 1000),
             y -> y.rerow(0), y -> y.finish()};
         for (Call change : all) {
+            BumpsChart x = dayOver();
             Check.holds("a change", change.on(x) >= 0);
             Check.due("back", x.undo(), 3);
-            Check.same("all but the text", Check.told(x).substring(31), before.substring(31));
+            x.set(0, x.count(8));
+            Check.same("all but the text", Check.told(x), before);
         }
+        BumpsChart x = dayOver();
         Check.write(x, "x");
         x.setSpeed(0, 1);
         Check.write(x, "5-2;");
