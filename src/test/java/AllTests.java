@@ -1,4 +1,4 @@
-/** Runs all tests of the project; ends with exit code 1 if a check failed. */
+/** Runs all tests of the project, told where the class and README.md stand; exit code 1 if a check failed. */
 public final class AllTests {
     private AllTests() { }
 
@@ -16,6 +16,7 @@ public final class AllTests {
         TextsEdgesTests.run();
         ChangesEdgesTests.run();
         FaceTests.run(args[0]);
+        ReadmeTests.run(args[1]);
         ModelTests.run();
         System.out.println("the project's checks: " + Check.passed() + " passed, " + Check.failed() + " failed; "
             + Check.sentences() + " sentences of the document have a test of their own");

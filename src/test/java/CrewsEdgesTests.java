@@ -33,6 +33,7 @@ final class CrewsEdgesTests {
             Check.range("days", 1, 6, days -> new BumpsChart().begin(24, 3, days)));
         Check.sentence("2: Returns the number of divisions", CrewsEdgesTests::numberOfDivisions);
         Check.sentence("2: INVALID_ARGUMENT if an argument is out of range", CrewsEdgesTests::beginRefused);
+        Check.sentence("2: Begins anew", CrewsEdgesTests::nothingOfBefore);
         Check.sentence("2: Speeds become 400, settings stay", CrewsEdgesTests::speedsAnew);
         Check.sentence("3: crew: number of the crew", CrewsEdgesTests::setSpeedOfCrew);
         Check.sentence("3: speed: 1 to 1000", () ->
@@ -244,6 +245,32 @@ final class CrewsEdgesTests {
             Check.due("the days stay", x.count(3), 4);
             Check.due("the speeds stay", x.crew(11, 0), 5);
             Check.due("no state is recorded", x.count(10), 1);
+        }
+    }
+
+    /** After begin all that is told, at first and after each race, is what a chart tells that never was another. */
+    private static void nothingOfBefore() {
+        for (int races = 0; races <= 6; races++) {
+            BumpsChart used = Charts.begun(6, 3, 3);
+            for (int race = 0; race < races; race++) {
+                Charts.raceWith(used, used.starter(1), used.starter(0));
+            }
+            used.bump(used.starter(used.count(7) - 1), used.starter(used.count(7) - 2));
+            used.begin(5, 3, 2);
+            BumpsChart fresh = new BumpsChart();
+            Charts.finish(fresh, 4);
+            fresh.begin(5, 3, 2);
+            used.setSpeed(0, 400);
+            used.setSpeed(0, 400);
+            Check.same("at first, after " + races, Check.told(used), Check.told(fresh));
+            Charts.finish(used, 2);
+            Charts.finish(fresh, 2);
+            Check.same("a day without bumps, after " + races, Check.told(used), Check.told(fresh));
+            Charts.raceWith(used, 4, 3);
+            Charts.raceWith(fresh, 4, 3);
+            used.finish();
+            fresh.finish();
+            Check.same("a day with a bump, after " + races, Check.told(used), Check.told(fresh));
         }
     }
 
